@@ -212,6 +212,24 @@ public final class Promise05MakeTest {
         y.collect(2, 1);
         Due.due("they go on", y.told(10), 2);
         missingComesFirst();
+        ofTheTwentieth();
+    }
+
+    private static void ofTheTwentieth() {
+        CarDesk x = new CarDesk();
+        for (int i = 1; i <= 20; i++) {
+            Desks.system(x, i);
+        }
+        for (int i = 1; i <= 20; i++) {
+            x.make(1);
+        }
+        Due.due("a WORLD of the 20th SYSTEM", Desks.state(x, 65), 217 + 20);
+        x.call(7, 84, 1000);
+        x.make(3);
+        x.make(5);
+        x.call(15, 193, 0);
+        Due.due("a TESTER of the 20th WORLD", Desks.state(x, 193), 1000);
+        Due.due("a FLEET of twenty", Desks.state(x, 321), 20);
     }
 
     private static void missingComesFirst() {
