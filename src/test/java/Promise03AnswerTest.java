@@ -1,10 +1,21 @@
 /** Promise 3: answer. */
 public final class Promise03AnswerTest {
     public static void main(String[] args) {
+        Sentences promise = new Sentences("Promise 3: answer");
+        promise.holds("The ANSWER of a call: 1.", Promise03AnswerTest::answers);
+        promise.holds("-1 there is no such call", Promise03AnswerTest::noSuchCall);
+        promise.holds("-2 v is not -1000000000 .. 1000000000.", Promise03AnswerTest::outside);
+        promise.end();
+    }
+
+    private static void answers() {
         everyCallHasItsOwn();
         whereItCounts();
-        edges();
-        Due.end();
+        CarDesk x = new CarDesk();
+        Due.due("without a thing", x.answer(0, 1), 1);
+        Due.due("the same again", x.answer(0, 1), 1);
+        Due.due("ACTS", x.told(7), 2);
+        Due.due("no call was answered by it", x.told(5), 0);
     }
 
     private static void everyCallHasItsOwn() {
@@ -22,6 +33,8 @@ public final class Promise03AnswerTest {
         }
         Due.due("an ANSWER again", x.answer(0, -7), 1);
         Due.due("the newer one stands", x.call(0, 1, 0), -2);
+        Due.due("no ANSWER again", x.answer(0, 0), 1);
+        Due.due("the STATE alone", x.call(0, 1, 0), 5);
     }
 
     private static void whereItCounts() {
@@ -48,22 +61,30 @@ public final class Promise03AnswerTest {
         Due.due("the SYSTEM then", y.call(0, 1, 0), 218 ^ 2);
     }
 
-    private static void edges() {
+    private static void noSuchCall() {
+        Due.due("the first call", new CarDesk().answer(0, 1), 1);
+        Due.due("the last call", new CarDesk().answer(23, 1), 1);
+        int[] unknown = {-1, -24, 24, 25, Integer.MIN_VALUE, Integer.MAX_VALUE};
+        for (int call : unknown) {
+            Due.refused("answer(" + call + ", 0)", Desks::busyHouse, d -> d.answer(call, 0), -1);
+            Due.refused("answer(" + call + ", 2 billions)", Desks::busyHouse,
+                d -> d.answer(call, 2 * Desks.BILLION), -1);
+        }
+    }
+
+    private static void outside() {
         CarDesk x = Desks.house();
         Due.due("the most", x.answer(0, Desks.BILLION), 1);
         Due.due("asked with the most", x.call(0, 1, 0), 1000000005L);
         Due.due("the least", x.answer(0, -Desks.BILLION), 1);
         Due.due("asked with the least", x.call(0, 1, 0), -999999995L);
-        Due.due("the last call", x.answer(23, 1), 1);
-        Due.due("ACTS", x.told(7), Desks.house().told(7) + 5);
-        long[] outside = {Desks.BILLION + 1, -Desks.BILLION - 1, 1L << 32, Long.MIN_VALUE, Long.MAX_VALUE};
+        long[] outside = {Desks.BILLION + 1, -Desks.BILLION - 1, 1L << 32, -(1L << 32), Long.MIN_VALUE,
+            Long.MAX_VALUE};
         for (long v : outside) {
-            Due.refused("answer(0, " + v + ")", Desks::busyHouse, d -> d.answer(0, v), -2);
-        }
-        int[] unknown = {-1, 24, 25, Integer.MIN_VALUE, Integer.MAX_VALUE};
-        for (int call : unknown) {
-            Due.refused("answer(" + call + ", 0)", Desks::busyHouse, d -> d.answer(call, 0), -1);
-            Due.refused("answer(" + call + ", 2 billions)", Desks::busyHouse, d -> d.answer(call, 2 * Desks.BILLION), -1);
+            for (int last = 0; last < 24; last += 23) {
+                int call = last;
+                Due.refused("answer(" + call + ", " + v + ")", Desks::busyHouse, d -> d.answer(call, v), -2);
+            }
         }
     }
 }

@@ -1,148 +1,24 @@
-import java.util.Random;
-import java.util.zip.Adler32;
-
-/** Promise 5: make, and how a thing IS MADE. */
+/** Promise 5: make. How a thing IS MADE is tested with the terms. */
 public final class Promise05MakeTest {
     public static void main(String[] args) {
-        systems();
-        buses();
-        packages();
-        worlds();
-        testers();
-        fleets();
-        numbersComeNeverTwice();
-        missing();
-        twenty();
-        Due.end();
+        Sentences promise = new Sentences("Promise 5: make");
+        promise.holds("A thing of a KIND: its NUMBER.", Promise05MakeTest::itsNumber);
+        promise.holds("-1 there is no such KIND", Promise05MakeTest::noSuchKind);
+        promise.holds("-3 what it is made of is not there", Promise05MakeTest::notThere);
+        promise.holds("-4 there were 20.", Promise05MakeTest::twenty);
+        promise.end();
     }
 
-    private static void systems() {
-        CarDesk x = new CarDesk();
-        Due.due("the first SYSTEM", Desks.system(x, 0), 1);
-        Due.due("of the letter 0", Desks.state(x, 1), 217);
-        Due.due("the second SYSTEM", Desks.system(x, 127, 1), 2);
-        Due.due("of 127 and 1", Desks.state(x, 2), 31 * (217 + 127) + 1);
-        CarDesk y = new CarDesk();
-        long state = 7;
-        for (int i = 0; i < 100; i++) {
-            y.collect(0, i);
-            state = 31 * state + i;
-        }
-        y.make(0);
-        Due.due("of a hundred letters, wrapping", Desks.state(y, 1), state);
-        Due.due("letters are gone", y.told(8), 0);
-        Due.due("and there is none to make another", y.make(0), -3);
-    }
-
-    private static void buses() {
-        busOf(0, 0);
-        busOf(1000, 1);
-        busOf(0, 0, 0, 0);
-        busOf(3000, 1, 1, 1);
-        busOf(1001, 0, 1);
-        busOf(1001, 1, 0);
-        busOf(2003, 1, 0, 1, 0);
-        CarDesk x = new CarDesk();
-        Desks.bus(x, 1);
-        Due.due("the second BUS", Desks.bus(x, 0), 130);
-        Due.due("knows nothing of the first one's bits", Desks.state(x, 130), 0);
-        Due.due("bits are gone", x.told(9), 0);
-        Due.due("and there is none to make another", x.make(2), -3);
-    }
-
-    private static void busOf(long state, int... bits) {
-        CarDesk x = new CarDesk();
-        Due.due("a BUS", Desks.bus(x, bits), 129);
-        Due.due("a BUS of " + bits.length + " bits", Desks.state(x, 129), state);
-    }
-
-    private static void packages() {
-        packageOf(0);
-        packageOf(255);
-        packageOf(1, 200, 255, 7);
-        Random random = new Random(1);
-        int[] many = random.ints(120, 0, 256).toArray();
-        packageOf(many);
-        int[] most = new int[120];
-        java.util.Arrays.fill(most, 255);
-        packageOf(most);
-        wholePackage();
-    }
-
-    private static void packageOf(int... bytes) {
-        CarDesk x = new CarDesk();
-        Due.due("a PACKAGE", Desks.pack(x, bytes), 257);
-        Due.due("a PACKAGE of " + bytes.length + " bytes", Desks.state(x, 257), adler(bytes));
-        Due.due("bytes are gone", x.told(10), 0);
-        Due.due("and there is none to make another", x.make(4), -3);
-    }
-
-    private static void wholePackage() {
-        int[] bytes = new int[200];
-        java.util.Arrays.fill(bytes, 255);
-        CarDesk x = new CarDesk();
-        Due.due("a PACKAGE of 200", Desks.pack(x, bytes), 257);
-        Due.due("its STATE", x.call(4, 257, 0), adler(bytes));
-    }
-
-    private static long adler(int... bytes) {
-        Adler32 adler = new Adler32();
-        for (int b : bytes) {
-            adler.update(b);
-        }
-        return adler.getValue();
-    }
-
-    private static void worlds() {
-        CarDesk x = new CarDesk();
-        Desks.system(x, 1);
-        Desks.system(x, 2);
-        Due.due("a WORLD", x.make(1), 65);
-        Due.due("of the SYSTEM made last", Desks.state(x, 65), 219);
-        x.call(6, 2, 1000);
-        Due.due("its STATE is the one of then", Desks.state(x, 65), 219);
-        Due.due("a second WORLD", x.make(1), 66);
-        Due.due("its STATE is the newer one", Desks.state(x, 66), 1000);
-        x.drop(65);
-        x.drop(66);
-        x.drop(2);
-        Due.due("a third WORLD", x.make(1), 67);
-        Due.due("of the last SYSTEM that is there", Desks.state(x, 67), 218);
-        Due.due("that SYSTEM can't go", x.drop(1), false);
-    }
-
-    private static void testers() {
-        CarDesk x = Desks.house();
-        x.call(7, 65, 100);
-        x.call(7, 66, 200);
-        Due.due("a TESTER has STATE 0", Desks.state(x, 193), 0);
-        x.call(15, 193, 0);
-        Due.due("it is of the WORLD made last", Desks.state(x, 193), 200);
-        x.drop(193);
-        x.drop(66);
-        Due.due("a second TESTER", x.make(3), 194);
-        x.call(15, 194, 0);
-        Due.due("is of the last WORLD that is there", Desks.state(x, 194), 100);
-    }
-
-    private static void fleets() {
-        CarDesk x = Desks.house();
-        Due.due("a FLEET of two WORLDS", Desks.state(x, 321), 2);
-        x.make(1);
-        Due.due("a second FLEET", x.make(5), 322);
-        Due.due("of three", Desks.state(x, 322), 3);
-        Due.due("the first one stays", Desks.state(x, 321), 2);
-        x.drop(65);
-        x.drop(67);
-        Due.due("a third FLEET", x.make(5), 323);
-        Due.due("of one that is there", Desks.state(x, 323), 1);
-    }
-
-    private static void numbersComeNeverTwice() {
+    private static void itsNumber() {
         for (int kind = 0; kind < 6; kind++) {
             CarDesk x = Desks.busyHouse();
+            int acts = x.told(7);
+            int made = x.told(6);
             int next = kind == 1 ? 67 : 64 * kind + 2;
             Due.due("make(" + kind + ")", x.make(kind), next);
+            Due.due("things made", x.told(6), made + 1);
+            Due.due("ACTS", x.told(7), acts + 1);
+            Due.due("it is there", x.call(kind, next, 0) != -1, true);
             Due.due("drop(" + next + ")", x.drop(next), true);
             Desks.collect(x, kind == 0 ? 0 : kind == 2 ? 1 : 2, 1);
             Due.due("make(" + kind + ") after that", x.make(kind), next + 1);
@@ -150,29 +26,35 @@ public final class Promise05MakeTest {
         }
     }
 
-    private static void missing() {
-        for (int kind = 0; kind < 6; kind++) {
-            int made = kind;
-            Due.refused("make(" + kind + ") of nothing", CarDesk::new, d -> d.make(made), -3);
+    private static void noSuchKind() {
+        int[] unknown = {-1, 6, 7, 64, Integer.MIN_VALUE, Integer.MAX_VALUE};
+        for (int kind : unknown) {
+            Due.refused("make(" + kind + ")", Desks::busyHouse, d -> d.make(kind), -1);
+            Due.due("make(" + kind + ") first", new CarDesk().make(kind), -1);
         }
-        int[] sorted = {0, 2, 4};
-        for (int kind : sorted) {
+    }
+
+    private static void notThere() {
+        for (int made = 0; made < 6; made++) {
+            int kind = made;
+            Due.refused("make(" + kind + ") of nothing", CarDesk::new, d -> d.make(kind), -3);
+        }
+        for (int made = 0; made < 6; made += 2) {
+            int kind = made;
             Due.refused("make(" + kind + ") in a house", Desks::house, d -> d.make(kind), -3);
             Due.refused("make(" + kind + ") of other sorts", () -> withoutSort(kind / 2), d -> d.make(kind), -3);
         }
         Due.refused("a TESTER without a WORLD", Promise05MakeTest::systemAlone, d -> d.make(3), -3);
         Due.refused("a FLEET without a WORLD", Promise05MakeTest::systemAlone, d -> d.make(5), -3);
-        Due.refused("a WORLD without a SYSTEM", Promise05MakeTest::allGone, d -> d.make(1), -3);
+        Due.refused("a WORLD, the SYSTEM is gone", Promise05MakeTest::allGone, d -> d.make(1), -3);
         Due.refused("a TESTER, the WORLD is gone", Promise05MakeTest::allGone, d -> d.make(3), -3);
         Due.refused("a FLEET, the WORLD is gone", Promise05MakeTest::allGone, d -> d.make(5), -3);
-        int[] unknown = {-1, 6, 7, 64, Integer.MIN_VALUE, Integer.MAX_VALUE};
-        for (int kind : unknown) {
-            Due.refused("make(" + kind + ")", Desks::busyHouse, d -> d.make(kind), -1);
-        }
+        Due.refused("a SYSTEM, letters are used up", Promise05MakeTest::systemAlone, d -> d.make(0), -3);
     }
 
+    /** All three sorts but one, and things of every KIND. */
     private static CarDesk withoutSort(int what) {
-        CarDesk x = new CarDesk();
+        CarDesk x = Desks.house();
         x.collect((what + 1) % 3, 1);
         x.collect((what + 2) % 3, 1);
         return x;
@@ -193,43 +75,26 @@ public final class Promise05MakeTest {
     }
 
     private static void twenty() {
-        for (int kind = 0; kind < 6; kind++) {
-            int made = kind;
+        for (int made = 0; made < 6; made++) {
+            int kind = made;
             CarDesk x = Desks.twentyOf(kind);
             Due.due("numbers(" + kind + ")", x.numbers(kind), 20);
-            Due.refused("the 21st of " + kind, () -> Desks.twentyOf(made), d -> d.make(made), -4);
+            Due.refused("the 21st of " + kind, () -> Desks.twentyOf(kind), d -> d.make(kind), -4);
             Due.due("the last can go", x.drop(64 * kind + 20), true);
             Due.due("the 21st of " + kind + ", one is gone", x.make(kind), -4);
             Due.due("numbers(" + kind + ") then", x.numbers(kind), 19);
         }
-        CarDesk x = Desks.twentyOf(0);
-        x.make(1);
-        x.make(0);
-        Due.due("a refused make leaves the letters", x.told(8), 1);
-        CarDesk y = Desks.twentyOf(4);
-        y.make(4);
-        Due.due("a refused make leaves the bytes", y.told(10), 1);
-        y.collect(2, 1);
-        Due.due("they go on", y.told(10), 2);
+        refusedLeavesWhatIsCollected();
         missingComesFirst();
-        ofTheTwentieth();
     }
 
-    private static void ofTheTwentieth() {
-        CarDesk x = new CarDesk();
-        for (int i = 1; i <= 20; i++) {
-            Desks.system(x, i);
+    private static void refusedLeavesWhatIsCollected() {
+        for (int what = 0; what < 3; what++) {
+            CarDesk x = Desks.twentyOf(2 * what);
+            Due.due("the 21st", x.make(2 * what), -4);
+            Due.due("a refused make leaves what it needs", x.told(8 + what), 1);
+            Due.due("it goes on", x.collect(what, 1), 2);
         }
-        for (int i = 1; i <= 20; i++) {
-            x.make(1);
-        }
-        Due.due("a WORLD of the 20th SYSTEM", Desks.state(x, 65), 217 + 20);
-        x.call(7, 84, 1000);
-        x.make(3);
-        x.make(5);
-        x.call(15, 193, 0);
-        Due.due("a TESTER of the 20th WORLD", Desks.state(x, 193), 1000);
-        Due.due("a FLEET of twenty", Desks.state(x, 321), 20);
     }
 
     private static void missingComesFirst() {

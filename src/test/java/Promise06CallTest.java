@@ -1,211 +1,158 @@
-/** Promise 6: call, with the FORMS of each KIND. */
+/** Promise 6: call. What each FORM does is tested with the terms. */
 public final class Promise06CallTest {
     private static final int[] NUMBERS = {1, 65, 129, 193, 257, 321};
 
     public static void main(String[] args) {
-        asks();
-        sets();
-        steps();
-        compares();
-        unknown();
-        outside();
-        steppedWithWorld();
-        fiftyTurns();
-        orderOfRefusals();
-        Due.end();
+        Sentences promise = new Sentences("Promise 6: call");
+        promise.holds("A call of a thing: its answer.", Promise06CallTest::itsAnswer);
+        promise.holds("-1 there is no such call", Promise06CallTest::noSuchCall);
+        promise.holds("or no thing of that NUMBER", Promise06CallTest::noThing);
+        promise.holds("that is there", Promise06CallTest::gone);
+        promise.holds("and of the call's KIND", Promise06CallTest::otherKind);
+        promise.holds("(COMPARES: nor of the NUMBER a)", Promise06CallTest::comparesWithNone);
+        promise.holds("-2 a is not -1000000000 .. 1000000000", Promise06CallTest::outside);
+        promise.holds("-3 it STEPS a SYSTEM of which a WORLD is there", Promise06CallTest::systemOfWorld);
+        promise.holds("-4 it STEPS and TURNS are 50.", Promise06CallTest::fiftyTurns);
+        promise.end();
     }
 
-    private static void asks() {
+    private static void itsAnswer() {
         CarDesk x = Desks.house();
-        long[] states = {5, 5, 2002, 0, 65536 * 4 + 4, 2};
+        int acts = x.told(7);
+        int answered = x.told(5);
+        Due.due("ASKS", x.call(0, 1, 0), 5);
+        Due.due("SETS", x.call(7, 65, 9), 5);
+        Due.due("STEPS", x.call(14, 129, 1), 1);
+        Due.due("COMPARES", x.call(23, 321, 321), 1);
+        Due.due("ACTS", x.told(7), acts + 4);
+        Due.due("answered", x.told(5), answered + 4);
+        Due.due("refused", x.told(0), 0);
+        theTwentieth();
+    }
+
+    private static void theTwentieth() {
         for (int kind = 0; kind < 6; kind++) {
-            Due.due("ASKS " + kind, x.call(kind, NUMBERS[kind], Desks.BILLION), states[kind]);
-            Due.due("ASKS " + kind + " again", x.call(kind, NUMBERS[kind], -Desks.BILLION), states[kind]);
-        }
-        wraps();
-    }
-
-    private static void wraps() {
-        CarDesk x = new CarDesk();
-        Desks.bus(x, 1);
-        x.call(8, 129, -2);
-        x.call(14, 129, 63);
-        Due.due("the most", x.call(2, 129, 0), Long.MAX_VALUE);
-        x.answer(2, 1);
-        Due.due("and one", x.call(2, 129, 0), Long.MIN_VALUE);
-    }
-
-    private static void sets() {
-        for (int kind = 0; kind < 6; kind++) {
-            CarDesk x = Desks.house();
-            long was = x.call(kind, NUMBERS[kind], 0);
-            Due.due("SETS " + kind, x.call(6 + kind, NUMBERS[kind], -Desks.BILLION), was);
-            Due.due("SETS " + kind + " again", x.call(6 + kind, NUMBERS[kind], Desks.BILLION), -Desks.BILLION);
-            Due.due("ASKS " + kind + " then", x.call(kind, NUMBERS[kind], 0), Desks.BILLION);
+            CarDesk x = Desks.twentyOf(kind);
+            int last = 64 * kind + 20;
+            x.call(6 + kind, last, 77);
+            Due.due("the 20th of " + kind, x.call(kind, last, 0), 77);
+            Due.due("COMPARES with the 20th of " + kind, x.call(18 + kind, last, last), 1);
+            Due.due("no 21st of " + kind, x.call(kind, last + 1, 0), -1);
+            Due.due("COMPARES with no 21st of " + kind, x.call(18 + kind, last, last + 1), -1);
         }
     }
 
-    private static void steps() {
-        stepSystem();
-        stepWorld();
-        stepBus();
-        stepTester();
-        stepPackage();
-        stepFleet();
-    }
-
-    private static void stepSystem() {
-        CarDesk x = new CarDesk();
-        Desks.system(x, 1);
-        Due.due("STEPS a SYSTEM", x.call(12, 1, 6), 1);
-        Due.due("it is 218 xor 6", x.call(0, 1, 0), 218 ^ 6);
-        Due.due("STEPS it by less than 0", x.call(12, 1, -1), 2);
-        Due.due("it is turned round", x.call(0, 1, 0), ~(218 ^ 6));
-    }
-
-    private static void stepWorld() {
-        CarDesk x = Desks.house();
-        x.answer(13, -40);
-        Due.due("STEPS a WORLD", x.call(13, 65, 7), 1);
-        Due.due("it is 31 times 5, 7 and -40", x.call(1, 65, 0), 122);
-        Due.due("the other one stays", x.call(1, 66, 0), 5);
-        Due.due("so does its SYSTEM", x.call(0, 1, 0), 5);
-        long state = 122;
-        for (int i = 2; i <= 50; i++) {
-            state = 31 * state + Desks.BILLION - 40;
-            Due.due("STEPS a WORLD " + i, x.call(13, 65, Desks.BILLION), i);
-        }
-        Due.due("it wraps", x.call(1, 65, 0), state);
-    }
-
-    private static void stepBus() {
-        CarDesk x = new CarDesk();
-        Desks.bus(x, 1);
-        long state = -999999997L;
-        x.call(8, 129, state);
-        long[] by = {0, 1, 63, 62, 64, 65, -1, -64, 33, 1000000000L, -1000000000L, 32};
-        for (int i = 0; i < by.length; i++) {
-            state = Long.rotateLeft(state, (int) by[i]);
-            Due.due("STEPS a BUS by " + by[i], x.call(14, 129, by[i]), i + 1);
-            Due.due("a BUS turned by " + by[i], x.call(2, 129, 0), state);
-        }
-    }
-
-    private static void stepTester() {
-        CarDesk x = Desks.house();
-        x.call(7, 66, 40);
-        Due.due("STEPS a TESTER", x.call(15, 193, 2), 1);
-        Due.due("it, 40 and 2", x.call(3, 193, 0), 42);
-        x.call(7, 66, -10);
-        x.make(1);
-        x.call(7, 67, 5000);
-        Due.due("STEPS it again", x.call(15, 193, 0), 2);
-        Due.due("it and its WORLD, no newer one", x.call(3, 193, 0), 32);
-        Due.due("the WORLD stays", x.call(1, 66, 0), -10);
-    }
-
-    private static void stepPackage() {
-        CarDesk x = Desks.house();
-        long state = 65536 * 4 + 4;
-        long[][] rows = {{0, 5}, {7, 0}, {7, 3}, {1000000000L, 1000000000L}, {-1000000000L, 999999999L}};
-        for (int i = 0; i < rows.length; i++) {
-            x.answer(16, rows[i][1]);
-            Due.due("STEPS a PACKAGE", x.call(16, 257, rows[i][0]), i + 1);
-            state += rows[i][0] * rows[i][1];
-            Due.due("a PACKAGE then", x.call(4, 257, 0), state);
-        }
-    }
-
-    private static void stepFleet() {
-        CarDesk x = Desks.house();
-        x.call(7, 65, 30);
-        x.call(7, 66, -400);
-        Due.due("STEPS a FLEET", x.call(17, 321, 1), 1);
-        Due.due("all WORLDS and 1, not what it was", x.call(5, 321, 0), -369);
-        x.drop(65);
-        Due.due("STEPS it again", x.call(17, 321, 3), 2);
-        Due.due("those that are there", x.call(5, 321, 0), -397);
-        x.drop(193);
-        x.drop(66);
-        Due.due("STEPS it without a WORLD", x.call(17, 321, 9), 3);
-        Due.due("a alone", x.call(5, 321, 0), 9);
-    }
-
-    private static void compares() {
-        CarDesk x = new CarDesk();
-        Desks.bus(x, 1);
-        Desks.bus(x, 1);
-        comparesAs(x, 5, 5, 1);
-        comparesAs(x, 4, 5, 0);
-        comparesAs(x, 5, 4, 2);
-        comparesAs(x, -1, 1, 0);
-        comparesAs(x, 1, -1, 2);
-        Due.due("with itself", x.call(20, 129, 129), 1);
-        x.call(8, 129, 1);
-        x.call(14, 129, 63);
-        x.call(8, 130, 1000000000);
-        Due.due("the least of all", x.call(20, 129, 130), 0);
-        Due.due("with the least of all", x.call(20, 130, 129), 2);
-        for (int kind = 0; kind < 6; kind++) {
-            CarDesk y = Desks.house();
-            Due.due("COMPARES " + kind, y.call(18 + kind, NUMBERS[kind], NUMBERS[kind]), 1);
-        }
-    }
-
-    private static void comparesAs(CarDesk x, long first, long second, long want) {
-        x.call(8, 129, first);
-        x.call(8, 130, second);
-        Due.due("COMPARES " + first + " with " + second, x.call(20, 129, 130), want);
-        Due.due("it stays", x.call(2, 129, 0), first);
-    }
-
-    private static void unknown() {
-        int[] calls = {-1, -6, 24, 30, Integer.MIN_VALUE, Integer.MAX_VALUE};
+    private static void noSuchCall() {
+        int[] calls = {-1, -6, -24, 24, 30, Integer.MIN_VALUE, Integer.MAX_VALUE};
         for (int call : calls) {
             Due.refused("call(" + call + ", 1, 1)", Desks::busyHouse, d -> d.call(call, 1, 1), -1);
+            Due.refused("call(" + call + ", 1, 2 billions)", Desks::busyHouse,
+                d -> d.call(call, 1, 2 * Desks.BILLION), -1);
         }
-        int[] numbers = {0, 2, 20, 21, 64, 67, 84, 85, 128, 130, 192, 256, 320, 322, 384, 385,
-            -1, -63, -64, -65, Integer.MIN_VALUE, Integer.MAX_VALUE};
-        for (int number : numbers) {
+        for (int kind = 0; kind < 6; kind++) {
             CarDesk x = Desks.house();
-            for (int call = 0; call < 18; call++) {
-                Due.due("call(" + call + ", " + number + ", 1)", x.call(call, number, 1), -1);
-            }
-            Due.due("refused", x.told(0), 18);
+            Due.due("call 24 is of no KIND " + kind, x.call(24 + kind, NUMBERS[kind], 1), -1);
+            Due.due("call -1 is of no KIND " + kind, x.call(-6 + kind, NUMBERS[kind], 1), -1);
         }
-        for (int call = 0; call < 24; call++) {
-            int other = NUMBERS[(call + 1) % 6];
-            int asked = call;
-            Due.refused("call(" + call + ", " + other + ")", Desks::busyHouse, d -> d.call(asked, other, other), -1);
-        }
-        comparesUnknown();
-        CarDesk x = Desks.house();
-        x.drop(65);
-        Due.due("one that is gone", x.call(1, 65, 0), -1);
-        Due.due("COMPARES with one that is gone", x.call(19, 66, 65), -1);
-        Due.due("COMPARES one that is gone", x.call(19, 65, 66), -1);
     }
 
-    private static void comparesUnknown() {
-        long[] others = {0, 2, 65, -1, 64, 129, 1000000001L, (1L << 32) + 1, (1L << 33) + 1, -(1L << 32) + 1,
-            Long.MIN_VALUE, Long.MIN_VALUE + 1, Long.MAX_VALUE};
+    private static void noThing() {
+        int[] numbers = {0, 2, 20, 21, 63, 64, 67, 84, 85, 127, 128, 130, 192, 194, 256, 258, 320, 322, 383,
+            384, 385, -1, -63, -64, -65, Integer.MIN_VALUE, Integer.MAX_VALUE};
+        for (int number : numbers) {
+            CarDesk x = Desks.house();
+            for (int call = 0; call < 24; call++) {
+                int a = NUMBERS[call % 6];
+                Due.due("call(" + call + ", " + number + ", " + a + ")", x.call(call, number, a), -1);
+            }
+            Due.due("refused", x.told(0), 24);
+            Due.refused("call(0, " + number + ", 1)", Desks::busyHouse, d -> d.call(0, number, 1), -1);
+        }
+    }
+
+    private static void gone() {
+        for (int call = 0; call < 24; call++) {
+            int asked = call;
+            int number = call % 6 == 1 ? 65 : NUMBERS[call % 6];
+            Due.refused("call " + call + " of one that is gone", () -> houseOfTwoWithout(number),
+                d -> d.call(asked, number, number + 1), -1);
+        }
+    }
+
+    /** Two things of each KIND, and the one of that NUMBER gone. */
+    private static CarDesk houseOfTwoWithout(int number) {
+        CarDesk x = new CarDesk();
+        for (int i = 1; i <= 2; i++) {
+            Desks.system(x, i);
+            Desks.bus(x, 1);
+            Desks.pack(x, i);
+        }
+        for (int kind = 1; kind <= 5; kind += 2) {
+            x.make(kind);
+            x.make(kind);
+        }
+        Due.due("drop(" + number + ")", x.drop(number), true);
+        return x;
+    }
+
+    private static void otherKind() {
+        for (int call = 0; call < 24; call++) {
+            for (int kind = 0; kind < 6; kind++) {
+                if (kind != call % 6) {
+                    CarDesk x = Desks.house();
+                    int own = NUMBERS[call % 6];
+                    Due.due("call " + call + " of KIND " + kind, x.call(call, NUMBERS[kind], own), -1);
+                    Due.due("refused", x.told(0), 1);
+                }
+            }
+            int asked = call;
+            int other = NUMBERS[(call + 1) % 6];
+            Due.refused("call(" + call + ", " + other + ")", Desks::busyHouse, d -> d.call(asked, other, other), -1);
+        }
+    }
+
+    private static void comparesWithNone() {
+        long[] others = {0, 2, 21, 63, 65, -1, -63, 64, 129, 384, 385, 1000000000L, 1000000001L, (1L << 32) + 1,
+            (1L << 33) + 1, -(1L << 32) + 1, Long.MIN_VALUE, Long.MIN_VALUE + 1, Long.MAX_VALUE};
         for (long a : others) {
             Due.refused("call(18, 1, " + a + ")", Desks::busyHouse, d -> d.call(18, 1, a), -1);
+        }
+        for (int kind = 0; kind < 6; kind++) {
+            int call = 18 + kind;
+            int number = kind == 1 ? 66 : NUMBERS[kind] + 1;
+            int dropped = kind == 1 ? 65 : NUMBERS[kind];
+            Due.refused("COMPARES with one that is gone, " + kind, () -> houseOfTwoWithout(dropped),
+                d -> d.call(call, number, dropped), -1);
+            CarDesk x = Desks.house();
+            for (int other = 0; other < 6; other++) {
+                long due = other == kind ? 1 : -1;
+                Due.due("COMPARES " + kind + " with " + other, x.call(call, NUMBERS[kind], NUMBERS[other]), due);
+            }
         }
     }
 
     private static void outside() {
-        long[] arguments = {Desks.BILLION + 1, -Desks.BILLION - 1, 1L << 32, Long.MIN_VALUE, Long.MAX_VALUE};
-        for (long a : arguments) {
-            for (int call = 0; call < 18; call++) {
-                int asked = call;
-                Due.refused("call(" + call + ", .., " + a + ")", Desks::busyHouse,
-                    d -> d.call(asked, NUMBERS[asked % 6], a), -2);
+        long[] arguments = {Desks.BILLION + 1, -Desks.BILLION - 1, 1L << 32, -(1L << 32), Long.MIN_VALUE,
+            Long.MAX_VALUE};
+        for (int call = 0; call < 18; call++) {
+            int asked = call;
+            int number = NUMBERS[call % 6];
+            for (long a : arguments) {
+                Due.refused("call(" + call + ", " + number + ", " + a + ")", Desks::busyHouse,
+                    d -> d.call(asked, number, a), -2);
+            }
+            if (call != 12) {
+                Due.due("the most", Desks.house().call(call, number, Desks.BILLION) >= 0, true);
+                Due.due("the least", Desks.house().call(call, number, -Desks.BILLION) >= 0, true);
             }
         }
+        CarDesk x = new CarDesk();
+        Desks.system(x, 1);
+        Due.due("STEPS a SYSTEM by the most", x.call(12, 1, Desks.BILLION), 1);
+        Due.due("STEPS a SYSTEM by the least", x.call(12, 1, -Desks.BILLION), 2);
     }
 
-    private static void steppedWithWorld() {
+    private static void systemOfWorld() {
         Due.refused("STEPS a SYSTEM of which a WORLD is there", Desks::busyHouse, d -> d.call(12, 1, 1), -3);
         CarDesk x = Desks.house();
         Due.due("ASKS it", x.call(0, 1, 1), 5);
@@ -219,7 +166,11 @@ public final class Promise06CallTest {
         x.drop(193);
         x.drop(66);
         Due.due("both WORLDS are gone", x.call(12, 1, 1), 1);
+        x.make(1);
+        Due.due("the newer SYSTEM has a WORLD", x.call(12, 2, 1), -3);
+        Due.due("the older one has none", x.call(12, 1, 1), 2);
         Due.due("STEPS a WORLD of which a TESTER is there", Desks.house().call(13, 66, 1), 1);
+        Due.due("-2 before -3", Desks.house().call(12, 1, Desks.BILLION + 1), -2);
     }
 
     private static void fiftyTurns() {
@@ -232,12 +183,19 @@ public final class Promise06CallTest {
             Due.due("the STATE stays", x.call(kind, NUMBERS[kind], 0), state);
             Due.due("SETS", x.call(6 + kind, NUMBERS[kind], 1), state);
             Due.due("SETS sets no TURNS", x.call(12 + kind, NUMBERS[kind], 1), -4);
+            Due.due("COMPARES", x.call(18 + kind, NUMBERS[kind], NUMBERS[kind]), 1);
             Due.refused("the 51st of " + kind, () -> turnedOut(stepped),
                 d -> d.call(12 + stepped, NUMBERS[stepped], 1), -4);
+            Due.refused("the 51st of " + kind + ", outside", () -> turnedOut(stepped),
+                d -> d.call(12 + stepped, NUMBERS[stepped], Desks.BILLION + 1), -2);
         }
         CarDesk x = turnedOut(2);
         Desks.bus(x, 1);
         Due.due("another BUS has its own TURNS", x.call(14, 130, 1), 1);
+        Due.due("the first one has no room", x.call(14, 129, 1), -4);
+        CarDesk y = turnedOut(0);
+        y.make(1);
+        Due.due("-3 before -4", y.call(12, 1, 1), -3);
     }
 
     private static CarDesk turned(int kind) {
@@ -257,14 +215,5 @@ public final class Promise06CallTest {
         CarDesk x = turned(kind);
         x.call(12 + kind, NUMBERS[kind], 1);
         return x;
-    }
-
-    private static void orderOfRefusals() {
-        CarDesk x = turnedOut(0);
-        Due.due("-1 before -2", x.call(12, 2, 2 * Desks.BILLION), -1);
-        Due.due("-2 before -4", x.call(12, 1, 2 * Desks.BILLION), -2);
-        x.make(1);
-        Due.due("-3 before -4", x.call(12, 1, 1), -3);
-        Due.due("-2 before -3", x.call(12, 1, 2 * Desks.BILLION), -2);
     }
 }

@@ -11,13 +11,21 @@ public final class Promise10AgainTest {
     private static List<Consumer<CarDesk>> acts = new ArrayList<>();
 
     public static void main(String[] args) {
+        Sentences promise = new Sentences("Promise 10: again");
+        promise.holds("What this call answers at a second desk that did all ACTS that are noted, in order",
+            Promise10AgainTest::atASecondDesk);
+        promise.holds("-4 when more than 128 are.", Promise10AgainTest::moreThan128);
+        promise.holds("Nothing changes here, also no count.", Promise10AgainTest::nothingChanges);
+        promise.end();
+    }
+
+    private static void atASecondDesk() {
         plainOnes();
-        nothingChanges();
-        moreThan128();
+        inOrder();
+        afterRefusedAndFailed();
         for (int run = 0; run < 400; run++) {
             randomRun(run);
         }
-        Due.end();
     }
 
     private static void plainOnes() {
@@ -41,23 +49,65 @@ public final class Promise10AgainTest {
         Due.due("no room", x.again(14, 129, 1), -4);
     }
 
-    private static void nothingChanges() {
-        CarDesk x = Desks.busyHouse();
-        int refused = x.told(0);
-        List<Long> seen = Due.seen(x);
-        for (int call = -1; call <= 24; call++) {
-            for (long a : new long[] {1, 65, 129, 2 * Desks.BILLION}) {
-                x.again(call, 64 * Math.floorMod(call, 6) + 1, a);
-            }
+    private static void inOrder() {
+        CarDesk x = new CarDesk();
+        Due.due("no ACTS, no thing", x.again(0, 1, 0), -1);
+        Desks.system(x, 1, 2);
+        Due.due("letters in order", x.again(0, 1, 0), 31 * 218 + 2);
+        x.call(6, 1, 7);
+        x.call(6, 1, 8);
+        Due.due("the later one stands", x.again(6, 1, 0), 8);
+        x.make(1);
+        x.call(6, 1, 9);
+        Due.due("a WORLD of the STATE then", x.again(1, 65, 0), 8);
+        x.drop(65);
+        Due.due("one that is gone", x.again(1, 65, 0), -1);
+    }
+
+    private static void afterRefusedAndFailed() {
+        CarDesk x = new CarDesk();
+        Desks.system(x, 1);
+        x.fails(12, 2);
+        for (int i = 0; i < 60; i++) {
+            x.call(12, 1, 5);
         }
-        Due.due("no count", x.told(0), refused);
-        Due.due("nothing changes", Due.seen(x).equals(seen), true);
+        Due.due("it FAILS there, too", x.again(12, 1, 5), -102);
+        x.fails(12, 0);
+        Due.due("TURNS are as they were", x.again(12, 1, 5), 1);
+        Due.due("the STATE is as it was", x.again(6, 1, 0), 218);
+        x.make(1);
+        x.call(12, 1, 5);
+        Due.due("a refused one is not done there", x.again(0, 1, 0), 218);
+    }
+
+    private static void nothingChanges() {
+        for (int acts = 0; acts <= 129; acts += 129) {
+            CarDesk x = busyWith(acts);
+            CarDesk unasked = busyWith(acts);
+            for (int call = -1; call <= 24; call++) {
+                for (long a : new long[] {1, 65, 129, 2 * Desks.BILLION}) {
+                    x.again(call, 64 * Math.floorMod(call, 6) + 1, a);
+                }
+            }
+            Due.due("no count", x.told(0), unasked.told(0));
+            Due.due("nothing changes", Due.seen(x).equals(Due.seen(unasked)), true);
+            Due.due("nothing changes that shows later", Due.later(x).equals(Due.later(unasked)), true);
+        }
+    }
+
+    /** A busy house and as many ACTS more as it takes to have that many. */
+    private static CarDesk busyWith(int acts) {
+        CarDesk x = Desks.busyHouse();
+        for (int noted = x.told(7); noted < acts; noted++) {
+            x.answer(0, noted);
+        }
+        return x;
     }
 
     private static void moreThan128() {
         CarDesk x = Desks.house();
-        while (x.told(7) < 128) {
-            x.answer(0, x.told(7));
+        for (int noted = x.told(7); noted < 128; noted++) {
+            x.answer(0, noted);
         }
         Due.due("128 ACTS", x.again(0, 1, 0), 132);
         x.make(9);
