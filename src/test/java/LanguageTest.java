@@ -21,10 +21,13 @@ public final class LanguageTest {
         "public boolean CarDesk.drop(int)", "public int CarDesk.numbers(int)",
         "public long CarDesk.again(int,int,long)");
 
+    /** What no rule of LANGUAGE.md leaves; what it does leave (a switch with arrows) is let through. */
     private static final String[] FORBIDDEN = {
-        "\\bthrows?\\b", "\\btry\\b", "\\bcatch\\b", "\\bsynchronized\\b", "\\bassert\\b", "->", "::",
-        "\\bprotected\\b", "\\bpackage\\b", "\\bimport\\b", "Exact\\b", "\\bMath\\.random\\b", "\\bSystem\\.",
-        "\\bequals\\b", "\\bhashCode\\b", "\\btoString\\b"};
+        "\\bthrows?\\b", "\\btry\\b", "\\bcatch\\b", "\\bsynchronized\\b", "\\bassert\\b",
+        "^(?!\\s*(case\\b|default\\b)).*->", "::", "\\bpackage\\b", "\\bstatic\\s*\\{",
+        "\\bimport\\s+(?!java\\.util\\.(ArrayList|List|Arrays|Iterator);)", "\\w+Exact\\b", "\\bMath\\.random\\b",
+        "\\bSystem\\.(?!arraycopy\\b)", "\\bThread\\b", "\\bRandom\\b", "\\bboolean equals\\(", "\\bhashCode\\b",
+        "\\bString toString\\("};
 
     public static void main(String[] args) throws IOException {
         face();
@@ -61,7 +64,8 @@ public final class LanguageTest {
         Due.due("classes", nested.length < 12, true);
         for (Class<?> inside : nested) {
             Due.due("static: " + inside, Modifier.isStatic(inside.getModifiers()), true);
-            Due.due("not public: " + inside, Modifier.isPublic(inside.getModifiers()), false);
+            Due.due("public: " + inside, Modifier.isPublic(inside.getModifiers()), false);
+            Due.due("protected: " + inside, Modifier.isProtected(inside.getModifiers()), false);
             fields(inside);
         }
     }
@@ -70,7 +74,7 @@ public final class LanguageTest {
         int held = 0;
         for (Field field : type.getDeclaredFields()) {
             int modifiers = field.getModifiers();
-            Due.due("private: " + field, Modifier.isPrivate(modifiers), true);
+            Due.due("private: " + field, Modifier.isPrivate(modifiers) || type != CarDesk.class, true);
             Due.due("static but not final: " + field,
                 Modifier.isStatic(modifiers) && !Modifier.isFinal(modifiers), false);
             held += Modifier.isStatic(modifiers) ? 0 : 1;
@@ -85,7 +89,7 @@ public final class LanguageTest {
             .map(line -> line.replaceAll("//.*", ""))
             .collect(Collectors.joining("\n"));
         for (String word : FORBIDDEN) {
-            Matcher matcher = Pattern.compile(word).matcher(code);
+            Matcher matcher = Pattern.compile(word, Pattern.MULTILINE).matcher(code);
             Due.due("the source has " + word, matcher.find(), false);
         }
         Due.due("characters 0 to 255 alone", text.chars().allMatch(c -> c < 256), true);
