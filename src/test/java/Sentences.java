@@ -36,12 +36,6 @@ final class Sentences {
         Due.end();
     }
 
-    /** Ends a test of some sentences of a section. */
-    void endOfSome() {
-        coveredBy(text());
-        Due.end();
-    }
-
     private boolean[] coveredBy(String text) {
         boolean[] covered = new boolean[text.length()];
         for (String words : quoted) {
@@ -54,8 +48,12 @@ final class Sentences {
         return covered;
     }
 
-    /** The section in one line, without the signature that it begins with; empty without a document. */
     private String text() {
+        return textOf(section);
+    }
+
+    /** A section in one line, without the signature that it begins with; empty without a document. */
+    static String textOf(String section) {
         Path path = Path.of(System.getProperty("cardesk.document", "../shared/DOC.md"));
         if (!Files.exists(path)) {
             System.out.println("no document at " + path + ": the words of the tests are not looked up");
@@ -66,7 +64,7 @@ final class Sentences {
         int end = text.indexOf(" ## ", start + 1);
         Due.due("the document has the section " + section, start >= 0 && end > start, true);
         return start < 0 || end < start ? "" : text.substring(start + section.length() + 4, end)
-            .replaceAll("```(text)?", "").replaceAll("^`[^`]*`: ", "").replaceAll("\\s+", " ");
+            .replaceAll("```(text|java)?", "").replaceAll("^`[^`]*`: ", "").replaceAll("\\s+", " ");
     }
 
     private static String read(Path path) {
